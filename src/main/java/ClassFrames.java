@@ -134,9 +134,6 @@ public final class ClassFrames {
     }
 
     public long argument(int i, long v) {
-        if (i < 0 || i >= LOCALS) {
-            return BAD;
-        }
         return machine.changeArgument(i, v);
     }
 
@@ -474,7 +471,7 @@ public final class ClassFrames {
 
     /** What an INSTRUCTION does to kinds: the same where code is worked out, judged and run. */
     private static final class Effect {
-        /** What goes from the STACK, a hexadecimal digit for each place, the lowest one for the topmost; 4 stands for any REFERENCE. */
+        /** What goes from the STACK: a hexadecimal digit for each place, the lowest for the topmost; 4: any REFERENCE. */
         private static final int[] TAKES = {0, 0, 0, 0, 0, 0, 0, 0x1, 0, 0, 0, 0, 0x11, 0x11, 0x2323, 0x23, 0x1,
             0x61, 0x611, 0x6, 0x7, 0x4, 0x7, 0, 0, 0x1, 0x4, 0x1, 0};
         /** What comes to the STACK by itself; TOP: nothing. */
@@ -605,14 +602,17 @@ public final class ClassFrames {
             }
             depths[row] = state.depth();
             for (int i = 0; i < WIDTH; i++) {
-                setKind(row, i, state.kindOf(i));
+                kinds[row * WIDTH + i] = state.kindOf(i);
             }
         }
 
         void read(int row, State into) {
-            into.setDepth(depthOf(row));
+            if (row < 0 || row >= MOST_PLACES) {
+                return;
+            }
+            into.setDepth(depths[row]);
             for (int i = 0; i < WIDTH; i++) {
-                into.setKind(i, kindOf(row, i));
+                into.setKind(i, kinds[row * WIDTH + i]);
             }
         }
     }
@@ -626,7 +626,6 @@ public final class ClassFrames {
 
         void forget() {
             many = 0;
-            states.forget();
         }
 
         void add(int place, State state) {
@@ -719,7 +718,7 @@ public final class ClassFrames {
 
     /** TO MAKE. */
     private static final class Maker {
-        /** Every ROUND but the last reaches a PLACE or lifts one of its kinds, and each kind is lifted four times at most. */
+        /** Every ROUND but the last reaches a PLACE or lifts one of its kinds, each of them four times at most. */
         private static final int MOST_ROUNDS = MOST_PLACES * (1 + 4 * WIDTH) + 1;
 
         private final Code code;
@@ -813,6 +812,9 @@ public final class ClassFrames {
                 if (fault == FINE) {
                     fault = workOp(p);
                 }
+                if (fault == FINE) {
+                    fault = workWays(p);
+                }
                 if (fault != FINE) {
                     faultPlace = p;
                     return fault;
@@ -823,8 +825,7 @@ public final class ClassFrames {
 
         private int workOp(int place) {
             states.read(place, now);
-            int fault = Effect.apply(now, code.opAt(place), code.firstAt(place));
-            return fault == FINE ? workWays(place) : fault;
+            return Effect.apply(now, code.opAt(place), code.firstAt(place));
         }
 
         private int workHandlers(int place) {
@@ -1145,9 +1146,10 @@ public final class ClassFrames {
         }
     }
 
-    /** ROWS of a run: a new one for each STEP and each ARGUMENT at most. */
+    /** ROWS of a run, those of ARGUMENTS and new ones. */
     private static final class Rows {
-        private static final int MOST_ROWS = LOCALS + MOST_STEPS;
+        /** A STEP that makes one takes an INT, which another STEP brought: half of them make one at most. */
+        private static final int MOST_ROWS = LOCALS + MOST_STEPS / 2;
 
         private final int[] lengths = new int[MOST_ROWS];
         private final int[] cells = new int[MOST_ROWS * MOST_CELLS];
@@ -1173,7 +1175,7 @@ public final class ClassFrames {
         }
 
         boolean hasCell(int row, int i) {
-            return i >= 0 && i < lengthOf(row);
+            return row >= 0 && row < many && i >= 0 && i < lengths[row];
         }
 
         int cell(int row, int i) {
@@ -1188,8 +1190,8 @@ public final class ClassFrames {
     }
 
     /**
-     * TO RUN. Beside each kind stands a value: an INT, a COUNT (with its HALF, too), the CODE of a FAULT,
-     * which of the ROWS; NIL and a THING have 0.
+     * TO RUN. Beside each kind stands a value: an INT, a COUNT (in LOCALS with itself, on the STACK with its HALF,
+     * which is topmost), the CODE of a FAULT, which of the ROWS; NIL and a THING have 0.
      */
     private static final class Machine {
         private static final int RETURNED = 0, NOT_TAKEN = 1, GOES_ON = 2;
@@ -1276,7 +1278,6 @@ public final class ClassFrames {
                     break;
                 case COUNT:
                     setValue(local, v);
-                    setValue(local + 1, v);
                     break;
                 case HALF:
                     break;
@@ -1383,12 +1384,11 @@ public final class ClassFrames {
                     leave(value(a));
                     break;
                 case STORE:
-                    keep(a);
+                    setValue(a, taken[0]);
                     break;
                 case CAST:
-                    // in a run it stays what it is, NIL too
+                    // in a run it stays what it is, NIL too, and its value stands there still
                     state.setKind(LOCALS + state.depth() - 1, takenKinds[0]);
-                    leave(taken[0]);
                     break;
                 case INC:
                     setValue(a, (int) value(a) + code.secondAt(place));
@@ -1430,20 +1430,9 @@ public final class ClassFrames {
             }
         }
 
-        /** The value of what came to the STACK topmost, at both places of a COUNT. */
+        /** The value of what came to the STACK. */
         private void leave(long v) {
-            int topmost = LOCALS + state.depth() - 1;
-            setValue(topmost, v);
-            if (state.kindDown(0) == HALF) {
-                setValue(topmost - 1, v);
-            }
-        }
-
-        private void keep(int local) {
-            setValue(local, taken[0]);
-            if (takenKinds[0] == HALF) {
-                setValue(local + 1, taken[0]);
-            }
+            setValue(LOCALS + state.depth() - 1, v);
         }
 
         private void goFrom(int op, int a) {

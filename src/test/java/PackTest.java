@@ -9,6 +9,7 @@ public final class PackTest {
         whole();
         entries();
         planted();
+        plantedApart();
         longest();
         Due.end();
     }
@@ -147,6 +148,19 @@ public final class PackTest {
             System.arraycopy(due[kind], 0, want, 1, due[kind].length);
             Due.bytes("an entry of kind " + kind, x, want);
         }
+    }
+
+    /** A COUNT in the last LOCAL and a HALF lowest on the STACK are no pair. */
+    private static void plantedApart() {
+        ClassFrames x = new ClassFrames();
+        for (int i = 0; i < 8; i++) {
+            x.parameter(1);
+        }
+        Due.code(x, Due.op(3), Due.op(24, 2), Due.op(23));
+        x.make();
+        x.plant(0, 7, 2);
+        x.plant(0, 8, 3);
+        Due.bytes("LOCALS and STACK apart", x, 255, 0, 2, 0, 8, 1, 1, 1, 1, 1, 1, 1, 4, 0, 1, 7, 0, 3);
     }
 
     private static void planted() {

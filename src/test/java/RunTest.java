@@ -148,6 +148,8 @@ public final class RunTest {
         reads("the same ROW in another LOCAL", 55, change, 2, 1);
         reads("another ROW", 66, change, 1, 1);
         reads("another cell", 0, change, 0, 2);
+        gives("the first cell", 1, 0, Due.op(1, 1), make, Due.op(1, 0), Due.op(17));
+        manyRows();
         ClassFrames x = new ClassFrames();
         Due.code(x, change);
         Due.code(x, Due.op(8, 0), Due.op(1, 1), Due.op(17), Due.op(23), Due.op(8, 0));
@@ -156,6 +158,42 @@ public final class RunTest {
         Due.code(x, Due.op(1, 3), make, Due.op(1, 1), Due.op(17), Due.op(23));
         x.run(300);
         Due.is("a new ROW in a later run has cells 0", x.told(1), 0);
+    }
+
+    /** As many ROWS as STEPS can make, again and again on one object. */
+    private static void manyRows() {
+        ClassFrames x = new ClassFrames();
+        for (int i = 0; i < 8; i++) {
+            x.parameter(6);
+            x.argument(i, 7);
+        }
+        Due.code(x, Due.op(1, 20), Due.op(7), Due.op(9, 0), Due.op(24, 0));
+        for (int i = 0; i < 20; i++) {
+            Due.is("75 ROWS more", x.run(300), 2);
+        }
+        x.clear();
+        Due.code(x, Due.op(1, 20), Due.op(7), Due.op(23));
+        x.run(9);
+        Due.is("one more", x.told(1), 20);
+        denseRows();
+    }
+
+    /** Four ROWS in thirteen STEPS, thrown away by a FAULT, till LOCAL 0 is 0. */
+    private static void denseRows() {
+        ClassFrames x = new ClassFrames();
+        x.parameter(1);
+        x.argument(0, 22);
+        for (int i = 1; i < 8; i++) {
+            x.parameter(6);
+            x.argument(i, 7);
+        }
+        Due.code(x, Due.op(28, 0, -1), Due.op(8, 0), Due.op(25, 13), Due.op(1, 20), Due.op(7), Due.op(1, 20), Due.op(7), Due.op(1, 20),
+                Due.op(7), Due.op(1, 20), Due.op(7), Due.op(3), Due.op(22), Due.op(1, 20), Due.op(7), Due.op(9, 0), Due.op(8, 0),
+                Due.op(1, 19), Due.op(1, 6), Due.op(18), Due.op(8, 0), Due.op(1, 19), Due.op(17), Due.op(23));
+        x.handler(12, 13, 0, 7);
+        Due.is("dense ROWS: run(300)", x.run(300), 0);
+        Due.is("dense ROWS: told(1)", x.told(1), 6);
+        Due.is("dense ROWS: told(3)", x.told(3), 21 * 13 + 3 + 11);
     }
 
     private static void reads(String what, int due, int[][] change, int local, int cell) {
