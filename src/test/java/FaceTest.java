@@ -17,10 +17,18 @@ public final class FaceTest {
         "static {", "import java.io", "Object ", "@", "toString", "hashCode", "getMessage", "double", "float"};
 
     public static void main(String[] args) throws Exception {
+        constants();
         members();
         nested();
         text();
         Due.end();
+    }
+
+    private static void constants() {
+        Due.is("NONE", ClassFrames.NONE, -1);
+        Due.is("BAD", ClassFrames.BAD, -2);
+        Due.is("STATE", ClassFrames.STATE, -3);
+        Due.is("FULL", ClassFrames.FULL, -4);
     }
 
     private static void members() throws Exception {
