@@ -474,6 +474,7 @@ public final class ClassFrames {
         /** What goes from the STACK: a hexadecimal digit for each place, the lowest for the topmost; 4: any REFERENCE. */
         private static final int[] TAKES = {0, 0, 0, 0, 0, 0, 0, 0x1, 0, 0, 0, 0, 0x11, 0x11, 0x2323, 0x23, 0x1,
             0x61, 0x611, 0x6, 0x7, 0x4, 0x7, 0, 0, 0x1, 0x4, 0x1, 0};
+        private static final int MOST_TAKEN = 4;
         /** What comes to the STACK by itself; TOP: nothing. */
         private static final int[] GIVES = {TOP, INT, COUNT, NIL, THING, FAULT, MARK, ROW, TOP, TOP, TOP, TOP, INT,
             INT, COUNT, INT, COUNT, INT, TOP, INT, INT, TOP, TOP, TOP, TOP, TOP, TOP, TOP, TOP};
@@ -500,7 +501,8 @@ public final class ClassFrames {
             if (op < 0 || op >= TAKES.length || op >= GIVES.length) {
                 return FINE;
             }
-            for (int takes = TAKES[op]; takes != 0; takes >>>= 4) {
+            int takes = TAKES[op];
+            for (int i = 0; i < MOST_TAKEN && takes != 0; i++) {
                 int found = state.kindDown(0);
                 if (found == NONE) {
                     return EMPTY;
@@ -511,6 +513,7 @@ public final class ClassFrames {
                     return WRONG;
                 }
                 state.drop(1);
+                takes >>>= 4;
             }
             int comes = op == CAST ? a : GIVES[op];
             return comes == TOP ? FINE : state.push(comes);

@@ -1,3 +1,4 @@
+import java.lang.reflect.Array;
 import java.lang.reflect.Constructor;
 import java.lang.reflect.Field;
 import java.lang.reflect.Method;
@@ -5,6 +6,7 @@ import java.lang.reflect.Modifier;
 import java.nio.file.Files;
 import java.nio.file.Path;
 import java.util.ArrayList;
+import java.util.IdentityHashMap;
 import java.util.List;
 import java.util.TreeSet;
 
@@ -21,6 +23,7 @@ public final class FaceTest {
         members();
         nested();
         text();
+        room();
         Due.end();
     }
 
@@ -91,6 +94,56 @@ public final class FaceTest {
             Due.holds("no '" + word + "' in the text", !text.contains(word));
         }
         Due.is("one throw", text.split("throw new ", -1).length - 1, 1);
+        for (String line : text.split("\n")) {
+            boolean makes = line.contains("new ") && !line.contains("throw new ");
+            boolean once = line.matches(" +private final .* = new .*;|        (code|frames|maker|judge|packer|machine) = new .*;");
+            Due.holds("made once with the object: " + line.trim(), !makes || once);
+        }
         Due.is("one import", text.split("import ", -1).length - 1, 1);
+    }
+
+    /** All rows are made with the object: it has as many objects and elements behind its dearest calls as it had ahead of them. */
+    private static void room() throws Exception {
+        ClassFrames x = new ClassFrames();
+        int[] before = held(x, new IdentityHashMap<>());
+        Due.holds("objects and arrays of one: " + before[0], before[0] <= 60);
+        Due.holds("fields and elements of one: " + before[1], before[1] <= 10000);
+        for (int i = 0; i < 8; i++) {
+            x.parameter(6);
+        }
+        while (x.count(0) < 60) {
+            x.operation(24, (x.count(0) + 1) % 60, 0);
+        }
+        for (int i = 0; i < 100; i++) {
+            x.make();
+            x.judge();
+            x.packed();
+            x.run(300);
+        }
+        int[] after = held(x, new IdentityHashMap<>());
+        Due.is("objects and arrays behind 400 calls", after[0], before[0]);
+        Due.is("fields and elements behind 400 calls", after[1], before[1]);
+    }
+
+    private static int[] held(Object one, IdentityHashMap<Object, Object> seen) throws Exception {
+        int[] all = {0, 0};
+        if (one == null || seen.put(one, one) != null) {
+            return all;
+        }
+        all[0]++;
+        if (one.getClass().isArray()) {
+            all[1] += Array.getLength(one);
+            return all;
+        }
+        for (Field f : one.getClass().getDeclaredFields()) {
+            if (!Modifier.isStatic(f.getModifiers())) {
+                all[1]++;
+                f.setAccessible(true);
+                int[] more = f.getType().isPrimitive() ? new int[2] : held(f.get(one), seen);
+                all[0] += more[0];
+                all[1] += more[1];
+            }
+        }
+        return all;
     }
 }

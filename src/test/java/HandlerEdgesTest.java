@@ -2,6 +2,7 @@
 public final class HandlerEdgesTest {
     public static void main(String[] args) {
         placesMade();
+        localsOfThePlace();
         placesJudged();
         placesRun();
         firstThatFits();
@@ -33,6 +34,15 @@ public final class HandlerEdgesTest {
                 t.makes(1).frame(0, 7, due + "1", "7").locals(7, due + "1").stack(7, "7").stack(8, "").fits();
             }
         }
+    }
+
+    /** "its LOCALS": those of the PLACE that is WORKED, not of the one WORKED ahead of it, nor those behind the op. */
+    private static void localsOfThePlace() {
+        new Trial("a way round a STORE", "1; 25 5; 3; 9 0; 24 5; 0; 23; 10; 23", 1, 5).handler(5, 6, 7, 7).makes(2).locals(7, "05").fits();
+        new Trial("a way to the PLACE alone", "1; 25 5; 3; 9 0; 23; 0; 23; 10; 23", 1, 5).handler(5, 6, 7, 7).makes(2).locals(7, "15").fits();
+        new Trial("ahead of a STORE", "3; 9 0; 23; 10; 23", 1).handler(1, 2, 3, 7).makes(1).locals(3, "1").fits();
+        new Trial("behind a STORE", "3; 9 0; 23; 10; 23", 1).handler(2, 3, 3, 7).makes(1).locals(3, "4").fits();
+        new Trial("ahead of a STORE and behind it", "3; 9 0; 23; 10; 23", 6).handler(1, 3, 3, 7).makes(1).locals(3, "6").fits();
     }
 
     /** Planted LOCALS that hold only at PLACES 0 to 3: the first PLACE of the HANDLER behind them is refused. */

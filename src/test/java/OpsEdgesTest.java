@@ -11,6 +11,7 @@ public final class OpsEdgesTest {
     public static void main(String[] args) {
         above("", "", 3);
         topIsNothing();
+        joinedTopIsNothing();
         wraps();
         quotients();
         lowestBits();
@@ -113,6 +114,22 @@ public final class OpsEdgesTest {
         new Trial("INC of NIL", "3; 9 0; 28 0 1; 23").faulty(1, 2).endsAt(1, 2);
         new Trial("INC of a COUNT", "28 0 1; 23", 2).faulty(1, 0).endsAt(1, 0);
         new Trial("INC of a HALF", "28 1 1; 23", 2).faulty(1, 0).endsAt(1, 0);
+    }
+
+    /** The same in make(): an INT and NIL that are JOINED, below as many INTS as the op takes above it. */
+    private static void joinedTopIsNothing() {
+        String[] ops = {"7", "9 0", "12", "12", "13", "13", "14", "15", "16", "17", "17", "18", "18", "18", "19", "20", "21 5", "22", "25 0", "26 0",
+            "27 0 0"};
+        int[] above = {0, 0, 0, 1, 0, 1, 0, 0, 0, 0, 1, 0, 1, 2, 0, 0, 0, 0, 0, 0, 0};
+        for (int i = 0; i < ops.length; i++) {
+            int place = 5 + above[i];
+            Trial t = new Trial(ops[i] + " of a JOINED TOP", "1 1; 25 4; 1 1; 24 5; 3; " + Trial.times(above[i], "1 1") + ops[i] + "; 23");
+            t.faulty(1, place);
+        }
+        new Trial("10 of a JOINED TOP", "1 1; 25 4; 1 1; 24 5; 3; 10; 23").makes(2).stack(6, "").fits();
+        new Trial("11 of a JOINED TOP", "1 1; 25 4; 1 1; 24 5; 3; 1; 11; 23").makes(2).stack(7, "").fits();
+        new Trial("8 of a JOINED TOP", "1 1; 25 5; 1 1; 9 0; 24 7; 3; 9 0; 8 0; 23").faulty(1, 7).returns(1, 1);
+        new Trial("28 of a JOINED TOP", "1 1; 25 5; 1 1; 9 0; 24 7; 3; 9 0; 28 0 1; 23").faulty(1, 7).returns(-1, 0);
     }
 
     /** Sums and INC with Java's wrap-around. */

@@ -7,6 +7,8 @@ public final class RunEdgesTest {
         argumentsOfKinds();
         argumentsAtEnds();
         newOnes();
+        whichRow();
+        manyRows();
         rowsByNumber();
         cells();
         ofNil();
@@ -80,6 +82,38 @@ public final class RunEdgesTest {
         new Trial("cells are 0 in the next run", "8 0; 1 0; 17; 8 0; 1 0; 1 9; 18; 23", 6).argument(0, 1).returns(1, 0).returns(1, 0);
         new Trial("eight ROWS of seven", "8 7; 1 6; 1 8; 18; 8 6; 1 6; 17; 8 7; 1 6; 17; 12; 23", 6, 6, 6, 6, 6, 6, 6, 6).argument(6, 7)
                 .argument(7, 7).returns(1, 8);
+    }
+
+    /** Each ROW has cells of its own number, one of none at all, too. */
+    private static void whichRow() {
+        for (int first = 0; first <= 7; first++) {
+            for (int second = 0; second <= 7; second++) {
+                new Trial("ARGUMENTS " + first + ", " + second, "8 1; 19; 23", 6, 6).argument(0, first).argument(1, second).returns(1, second);
+                new Trial("above another one " + first + ", " + second, "8 0; 8 1; 19; 23", 6, 6).argument(0, first).argument(1, second)
+                        .returns(1, second);
+                new Trial("told of " + first + ", " + second, "8 0; 8 1; 23", 6, 6).argument(0, first).argument(1, second).returns(6, second);
+                new Trial("new ones " + first + ", " + second, "1 " + first + "; 7; 1 " + second + "; 7; 19; 23").returns(1, second);
+                new Trial("the one below " + first + ", " + second, "1 " + first + "; 7; 1 " + second + "; 7; 10; 19; 23").returns(1, first);
+                Trial cell = new Trial("a cell of the second " + first + ", " + second, "8 0; 8 1; 1 " + (first - 1) + "; 17; 23", 6, 6);
+                cell.argument(0, first).argument(1, second);
+                if (first >= 1 && first <= second) {
+                    cell.returns(1, 0);
+                } else {
+                    cell.throwsAt(3, 2);
+                }
+            }
+        }
+    }
+
+    /** 25 ROWS in each of five times round, then one more: all in less than 300 STEPS. */
+    private static void manyRows() {
+        String round = "8 0; 25 56; 28 0 -1; 1 20; " + Trial.times(25, "7; 19") + "10; 24 0; ";
+        new Trial("126 ROWS", round + "1 20; 7; 23", 1).argument(0, 5).returns(6, 20).told(3, 285);
+        Trial t = new Trial("eight more by ARGUMENTS", "1 20; " + Trial.times(28, "7; 19") + "24 1; 23", 6, 6, 6, 6, 6, 6, 6, 6);
+        for (int i = 0; i < 3; i++) {
+            Due.is("as many as there can be", t.x.run(300), 2);
+            t.told(3, 300);
+        }
     }
 
     /** "3 a ROW of n below 0", "6 a ROW of more than 20", "a new ROW of n cells 0". */
