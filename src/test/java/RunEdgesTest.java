@@ -80,6 +80,14 @@ public final class RunEdgesTest {
         new Trial("two ROWS", "8 0; 1 0; 1 9; 18; 8 1; 1 0; 17; 23", 6, 6).argument(0, 1).argument(1, 1).returns(1, 0);
         new Trial("one ROW", "8 0; 9 1; 8 0; 1 0; 1 9; 18; 8 1; 1 0; 17; 23", 6, 6).argument(0, 1).argument(1, 1).returns(1, 9);
         new Trial("cells are 0 in the next run", "8 0; 1 0; 17; 8 0; 1 0; 1 9; 18; 23", 6).argument(0, 1).returns(1, 0).returns(1, 0);
+        for (int i = 0; i < 8; i++) {
+            Trial t = new Trial("CODE of FAULTS 0, LOCAL " + i, "8 " + i + "; 23", 6, 7, 8, 5, 7, 6, 8, 7);
+            for (int j = 0; j < 8; j++) {
+                t.argument(j, 3);
+            }
+            int kind = "67857687".charAt(i) - '0';
+            t.returns(kind, kind == 6 ? 3 : 0);
+        }
         new Trial("eight ROWS of seven", "8 7; 1 6; 1 8; 18; 8 6; 1 6; 17; 8 7; 1 6; 17; 12; 23", 6, 6, 6, 6, 6, 6, 6, 6).argument(6, 7)
                 .argument(7, 7).returns(1, 8);
     }
